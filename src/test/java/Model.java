@@ -656,6 +656,10 @@ final class Model {
         return isDetail ? detail : reason;
     }
 
+    boolean isFilled(int shelf) {
+        return now.shelves[shelf] != null;
+    }
+
     private int filled() {
         int filled = 0;
         for (int[] row : now.shelves) {

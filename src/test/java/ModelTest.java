@@ -8,7 +8,7 @@ import java.util.Random;
 
 /** Runs of calls by seeds, each call made on the class and on the model, whose answers must be alike. */
 public final class ModelTest {
-    private static final int RUNS = 400;
+    private static final int RUNS = 600;
     private static final int CALLS = 512;
     private static final int MOST_TOLD = 5;
 
@@ -45,29 +45,40 @@ public final class ModelTest {
     }
 
     private String difference() {
-        String text = "";
-        for (int i = 0; i < CALLS; i++) {
-            Method method = face.get(random.nextInt(face.size()));
-            if (text.isEmpty() && random.nextInt(12) == 0) {
-                text = text();
-            }
-            Object[] values;
-            if (!text.isEmpty()) {
-                method = method("append");
-                values = new Object[] {text.charAt(0)};
-                text = text.substring(1);
-            } else if (calls.size() > 0 && calls.get(calls.size() - 1).startsWith("append") && random.nextInt(8) > 0) {
-                method = method(random.nextBoolean() ? "read" : "learn");
-                values = values(method);
+        String difference = null;
+        while (difference == null && calls.size() < CALLS) {
+            int kind = random.nextInt(30);
+            if (kind < 3) {
+                difference = differenceOfText();
             } else {
-                values = values(method);
-            }
-            String difference = difference(method, values);
-            if (difference != null) {
-                return difference;
+                difference = difference(anyMethod());
             }
         }
-        return null;
+        return difference;
+    }
+
+    private String differenceOfText() {
+        String difference = null;
+        for (char sign : text().toCharArray()) {
+            difference = difference == null ? difference(method("append"), new Object[] {sign}) : difference;
+        }
+        boolean isHeld = random.nextInt(12) == 0;
+        if (difference != null || isHeld) {
+            return difference;
+        }
+        return difference(method(random.nextInt(3) == 0 ? "read" : "learn"));
+    }
+
+    /** What takes everything back or away comes seldom, so that a run gets anywhere. */
+    private Method anyMethod() {
+        Method method = face.get(random.nextInt(face.size()));
+        boolean isSeldom = List.of("restore", "forget", "undo", "append", "read", "learn").contains(method.getName());
+        boolean isLeftOut = isSeldom && random.nextInt(4) > 0;
+        return isLeftOut ? method(List.of("shift", "join", "cycleLine").get(random.nextInt(3))) : method;
+    }
+
+    private String difference(Method method) {
+        return difference(method, values(method));
     }
 
     private String difference(Method method, Object[] values) {
@@ -120,7 +131,8 @@ public final class ModelTest {
     }
 
     private char sign() {
-        return random.nextInt(40) == 0 ? (char) random.nextInt(65536) : "rcs()[],'0123456789".charAt(random.nextInt(19));
+        boolean isAny = random.nextInt(40) == 0;
+        return isAny ? (char) random.nextInt(65536) : "rcs()[],'0123456789".charAt(random.nextInt(19));
     }
 
     private int number(String name, int parameter) {
@@ -164,11 +176,14 @@ public final class ModelTest {
         }
     }
 
-    /** Mostly a sequence, sometimes with one sign changed, taken away or cut off behind. */
+    /** Mostly a sequence, sometimes with one sign changed, taken away, cut off behind or put in. */
     private String text() {
-        String text = sequence(random.nextInt(5));
+        String text = sequence(random.nextInt(random.nextInt(6) + 1));
+        if (text.length() > (random.nextInt(4) == 0 ? 62 : 20)) {
+            return text();
+        }
         int place = random.nextInt(text.length());
-        switch (random.nextInt(8)) {
+        switch (random.nextInt(12)) {
             case 0:
                 return text.substring(0, place) + sign() + text.substring(place + 1);
             case 1:
@@ -187,9 +202,14 @@ public final class ModelTest {
         int items = 1 + random.nextInt(3);
         for (int i = 0; i < items && text.length() < 60; i++) {
             text.append(item(depth));
-            text.append(random.nextInt(3) == 0 ? "'" : "");
+            text.append(random.nextInt(4) == 0 ? "'" : "");
         }
         return text.toString();
+    }
+
+    private String shelfItem() {
+        int shelf = random.nextInt(5);
+        return model.isFilled(shelf) || random.nextInt(8) == 0 ? "s" + shelf : "r2" + (shelf + 1);
     }
 
     private String item(int depth) {
@@ -200,9 +220,9 @@ public final class ModelTest {
             case 1:
                 return "c" + random.nextInt(8) + (1 + random.nextInt(3));
             case 2:
-                return "s" + random.nextInt(5);
+                return shelfItem();
             case 3: case 4:
-                return "(" + sequence(depth - 1) + ")" + (2 + random.nextInt(random.nextInt(8) + 1));
+                return "(" + sequence(depth - 1) + ")" + (2 + random.nextInt(8));
             default:
                 return "[" + sequence(depth - 1) + "," + sequence(depth - 1) + "]";
         }
