@@ -39,8 +39,8 @@ public final class TwistyBarrels {
     private final Past past = new Past();
     private final State snapshot = new State();
     private boolean hasSnapshot = false;
-    private final SequenceText input = new SequenceText();
-    private final Line written = new Line();
+    private final SequenceReader reader = new SequenceReader();
+    private final Signs written = new Signs();
     private final Permutation made = new Permutation();
     private final Permutation spare = new Permutation();
     private int errorKept = NONE;
@@ -75,8 +75,7 @@ public final class TwistyBarrels {
         }
         past.hold(now);
         int kind = now.log.part(last, 0);
-        int whole = kind == TURN ? COLUMNS : RINGS;
-        doMove(kind, now.log.part(last, 1), whole - now.log.part(last, 2));
+        doMove(kind, now.log.part(last, 1), roundOf(kind) - now.log.part(last, 2));
         now.log.dropLast();
         return now.log.size();
     }
@@ -153,12 +152,12 @@ public final class TwistyBarrels {
     public int learn(int shelf)
             throws IndexOutOfBoundsException, IllegalArgumentException, UnsupportedOperationException {
         if (!isIndex(shelf, SHELVES)) {
-            input.clear();
+            reader.text.clear();
             throw new IndexOutOfBoundsException("there is no such shelf");
         }
         int counts = takeSequence();
         past.hold(now);
-        now.putOn(shelf, input.result());
+        now.putOn(shelf, reader.result());
         return counts;
     }
 
@@ -308,21 +307,21 @@ public final class TwistyBarrels {
 
     public char character(int index) throws IndexOutOfBoundsException {
         needIndex(index, written.size());
-        return written.signAt(index);
+        return (char) written.signAt(index);
     }
 
     public int append(char c) throws IllegalStateException {
-        if (input.size() >= MOST_SIGNS) {
+        if (reader.text.size() >= MOST_SIGNS) {
             throw new IllegalStateException("the input is full");
         }
-        input.addSign(c);
-        return input.size();
+        reader.text.addSign(c);
+        return reader.text.size();
     }
 
     public int read() throws IllegalArgumentException, UnsupportedOperationException {
         int counts = takeSequence();
         past.hold(now);
-        now.barrel.follow(input.result());
+        now.barrel.follow(reader.result());
         now.log.clear();
         now.sequencesRead++;
         return counts;
@@ -357,7 +356,7 @@ public final class TwistyBarrels {
             case 5:
                 return now.countFilled();
             case 6:
-                return input.size();
+                return reader.text.size();
             case 7:
                 return past.size();
             default:
@@ -454,12 +453,13 @@ public final class TwistyBarrels {
         throw new UnsupportedOperationException("it is refused");
     }
 
+    /** By how much a ring or column is moved once round. */
+    private static int roundOf(int kind) {
+        return kind == TURN ? COLUMNS : RINGS;
+    }
+
     private void doMove(int kind, int which, int by) {
-        if (kind == TURN) {
-            made.toTurn(which, by);
-        } else {
-            made.toShift(which, by);
-        }
+        made.toMove(kind, which, by);
         now.barrel.follow(made);
         now.movesDone++;
     }
@@ -482,12 +482,12 @@ public final class TwistyBarrels {
         return made.movesNothing();
     }
 
-    /** Empties the input, whether it is a sequence or not; what it does is then in input.result(). */
+    /** Empties the input, whether it is a sequence or not; what it does is then in reader.result(). */
     private int takeSequence() {
-        int counts = input.understand(now);
-        input.clear();
+        int counts = reader.understand(now);
+        reader.text.clear();
         if (counts == WRONG) {
-            errorKept = input.place();
+            errorKept = reader.place();
             throw new IllegalArgumentException("the text is no sequence");
         }
         if (counts > MOST_COUNTED) {
@@ -525,17 +525,27 @@ public final class TwistyBarrels {
         }
 
         void toCopy(Permutation other) {
-            System.arraycopy(other.goes, 0, goes, 0, SLOTS);
+            for (int slot = 0; slot < SLOTS; slot++) {
+                goes[slot] = other.goes[slot];
+            }
         }
 
-        void toTurn(int ring, int by) {
+        void toMove(int kind, int which, int by) {
+            if (kind == TURN) {
+                toTurn(which, by);
+            } else {
+                toShift(which, by);
+            }
+        }
+
+        private void toTurn(int ring, int by) {
             for (int slot = 0; slot < SLOTS; slot++) {
                 boolean isMoved = slot / COLUMNS == ring;
                 goes[slot] = isMoved ? ring * COLUMNS + (slot % COLUMNS + by) % COLUMNS : slot;
             }
         }
 
-        void toShift(int column, int by) {
+        private void toShift(int column, int by) {
             for (int slot = 0; slot < SLOTS; slot++) {
                 boolean isMoved = slot % COLUMNS == column;
                 goes[slot] = isMoved ? (slot + by * COLUMNS) % SLOTS : slot;
@@ -955,9 +965,9 @@ public final class TwistyBarrels {
         }
     }
 
-    /** The line that was written last. */
-    private static final class Line {
-        // The longest line is that of a full log.
+    /** The input, or the line that was written last. */
+    private static final class Signs {
+        // The longest line is that of a full log; the input ends earlier.
         private static final int MOST = MOST_LOGGED * MoveLog.PARTS;
 
         private final char[] signs = new char[MOST];
@@ -971,8 +981,8 @@ public final class TwistyBarrels {
             length = 0;
         }
 
-        char signAt(int index) {
-            return isIndex(index, length) ? signs[index] : ' ';
+        int signAt(int index) {
+            return index >= 0 && index < length ? signs[index] : NO_SIGN;
         }
 
         void addSign(char sign) {
@@ -1004,40 +1014,24 @@ public final class TwistyBarrels {
     }
 
     /**
-     * The input, and how it is understood: each method that understands a part moves the place
-     * behind it and answers how much it counts, or it answers WRONG and leaves the place at the
-     * sign that cannot continue. Each depth has rows of its own, for the sequence that stands there
-     * and for the item in it, because a sequence that stands within another one comes between.
+     * Understands a text as a sequence: each method that understands a part moves the place behind
+     * it and answers how much it counts, or it answers WRONG and leaves the place at the sign that
+     * cannot continue. Each depth has rows of its own, for the sequence that stands there and for
+     * the item in it, because a sequence that stands within another one comes between.
      */
-    private static final class SequenceText {
-        private final char[] signs = new char[MOST_SIGNS];
-        private int length = 0;
+    private static final class SequenceReader {
+        final Signs text = new Signs();
         private int place = 0;
         private final Permutation[] sequences = new Permutation[DEEPEST + 1];
         private final Permutation[] items = new Permutation[DEEPEST + 1];
         private final Permutation[] firsts = new Permutation[DEEPEST + 1];
         private final Permutation inverse = new Permutation();
 
-        SequenceText() {
+        SequenceReader() {
             for (int depth = 0; depth <= DEEPEST; depth++) {
                 sequences[depth] = new Permutation();
                 items[depth] = new Permutation();
                 firsts[depth] = new Permutation();
-            }
-        }
-
-        int size() {
-            return length;
-        }
-
-        void clear() {
-            length = 0;
-        }
-
-        void addSign(char sign) {
-            if (length < MOST_SIGNS) {
-                signs[length] = sign;
-                length++;
             }
         }
 
@@ -1054,15 +1048,11 @@ public final class TwistyBarrels {
         int understand(State shelves) {
             place = 0;
             int counts = sequence(0, shelves);
-            return place < length ? WRONG : counts;
-        }
-
-        private int nextSign() {
-            return place < length ? signs[place] : NO_SIGN;
+            return place < text.size() ? WRONG : counts;
         }
 
         private boolean isItemNext() {
-            int sign = nextSign();
+            int sign = text.signAt(place);
             return sign == 'r' || sign == 'c' || sign == 's' || sign == '(' || sign == '[';
         }
 
@@ -1087,12 +1077,12 @@ public final class TwistyBarrels {
         private int item(int depth, State shelves) {
             Permutation result = items[depth];
             int counts = WRONG;
-            switch (nextSign()) {
+            switch (text.signAt(place)) {
                 case 'r':
-                    counts = turnItem(result);
+                    counts = moveItem(TURN, result);
                     break;
                 case 'c':
-                    counts = shiftItem(result);
+                    counts = moveItem(SHIFT, result);
                     break;
                 case 's':
                     counts = shelfItem(shelves, result);
@@ -1106,7 +1096,7 @@ public final class TwistyBarrels {
                 default:
                     return WRONG;
             }
-            if (counts != WRONG && nextSign() == '\'') {
+            if (counts != WRONG && text.signAt(place) == '\'') {
                 place++;
                 inverse.toInverse(result);
                 result.toCopy(inverse);
@@ -1115,7 +1105,7 @@ public final class TwistyBarrels {
         }
 
         private int digit(int least, int most) {
-            int number = nextSign() - '0';
+            int number = text.signAt(place) - '0';
             if (number < least || number > most) {
                 return WRONG;
             }
@@ -1123,31 +1113,20 @@ public final class TwistyBarrels {
             return number;
         }
 
-        private int turnItem(Permutation result) {
+        private int moveItem(int kind, Permutation result) {
             place++;
-            int ring = digit(0, RINGS - 1);
-            int by = ring == WRONG ? WRONG : digit(1, COLUMNS - 1);
+            int which = digit(0, kind == TURN ? RINGS - 1 : COLUMNS - 1);
+            int by = which == WRONG ? WRONG : digit(1, roundOf(kind) - 1);
             if (by == WRONG) {
                 return WRONG;
             }
-            result.toTurn(ring, by);
-            return 1;
-        }
-
-        private int shiftItem(Permutation result) {
-            place++;
-            int column = digit(0, COLUMNS - 1);
-            int by = column == WRONG ? WRONG : digit(1, RINGS - 1);
-            if (by == WRONG) {
-                return WRONG;
-            }
-            result.toShift(column, by);
+            result.toMove(kind, which, by);
             return 1;
         }
 
         private int shelfItem(State shelves, Permutation result) {
             place++;
-            int shelf = nextSign() - '0';
+            int shelf = text.signAt(place) - '0';
             if (!shelves.isFilled(shelf)) {
                 return WRONG;
             }
@@ -1162,7 +1141,7 @@ public final class TwistyBarrels {
             }
             place++;
             int counts = sequence(depth + 1, shelves);
-            if (counts == WRONG || nextSign() != ')') {
+            if (counts == WRONG || text.signAt(place) != ')') {
                 return WRONG;
             }
             place++;
@@ -1180,13 +1159,13 @@ public final class TwistyBarrels {
             }
             place++;
             int firstCounts = sequence(depth + 1, shelves);
-            if (firstCounts == WRONG || nextSign() != ',') {
+            if (firstCounts == WRONG || text.signAt(place) != ',') {
                 return WRONG;
             }
             place++;
             firsts[depth].toCopy(sequences[depth + 1]);
             int secondCounts = sequence(depth + 1, shelves);
-            if (secondCounts == WRONG || nextSign() != ']') {
+            if (secondCounts == WRONG || text.signAt(place) != ']') {
                 return WRONG;
             }
             place++;

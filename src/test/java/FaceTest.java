@@ -90,7 +90,8 @@ public final class FaceTest {
         }
         for (Field field : TwistyBarrels.class.getDeclaredFields()) {
             check(Modifier.isPrivate(field.getModifiers()), field + " is not private");
-            check(!Modifier.isStatic(field.getModifiers()) || Modifier.isFinal(field.getModifiers()), field + " is not final");
+            boolean isStatic = Modifier.isStatic(field.getModifiers());
+            check(!isStatic || Modifier.isFinal(field.getModifiers()), field + " is not final");
         }
     }
 

@@ -12,7 +12,8 @@ public final class LinesTest {
         Calls.run("26: a digit for each slot of the ring", """
             line(3) -> 8; written -> "33333333"; line(0) -> 8; written -> "00000000"
             turn(2, 2) -> 24; shift(6, 1) -> 21; paint(8, 5) -> 1; paint(15, 4) -> 1
-            line(0) -> 8; written -> "00000030"; line(1) -> 8; written -> "51111104"; line(2) -> 8; written -> "22222212"
+            line(0) -> 8; written -> "00000030"; line(1) -> 8; written -> "51111104"
+            line(2) -> 8; written -> "22222212"
             turn(1, 1) -> 14; written -> "22222212"; line(1) -> 8; written -> "45111110"
             """);
         Calls.run("26: there is no such ring, and the line stays", """

@@ -161,9 +161,12 @@ public final class ShelvesTest {
 
     private static void shelfOf() {
         Calls.run("21: slots that it moves, cycles, the longest one, and the order", """
-            append "r01" -> 3; learn(0) -> 1; shelfOf(0, 0) -> 8; shelfOf(0, 1) -> 1; shelfOf(0, 2) -> 8; shelfOf(0, 3) -> 8
-            append "r02" -> 3; learn(0) -> 1; shelfOf(0, 0) -> 8; shelfOf(0, 1) -> 2; shelfOf(0, 2) -> 4; shelfOf(0, 3) -> 4
-            append "r04" -> 3; learn(0) -> 1; shelfOf(0, 0) -> 8; shelfOf(0, 1) -> 4; shelfOf(0, 2) -> 2; shelfOf(0, 3) -> 2
+            append "r01" -> 3; learn(0) -> 1
+            shelfOf(0, 0) -> 8; shelfOf(0, 1) -> 1; shelfOf(0, 2) -> 8; shelfOf(0, 3) -> 8
+            append "r02" -> 3; learn(0) -> 1
+            shelfOf(0, 0) -> 8; shelfOf(0, 1) -> 2; shelfOf(0, 2) -> 4; shelfOf(0, 3) -> 4
+            append "r04" -> 3; learn(0) -> 1
+            shelfOf(0, 0) -> 8; shelfOf(0, 1) -> 4; shelfOf(0, 2) -> 2; shelfOf(0, 3) -> 2
             append "r01'r01" -> 7; learn(0) -> 2; shelfOf(0, 0) -> 0; shelfOf(0, 1) -> 0; shelfOf(0, 2) -> 1
             shelfOf(0, 3) -> 1; orderAgain(0) -> 1; isEven(0, true) -> true; isEven(0, false) -> true; cycle(0, 9) -> 1
             append "r01c01" -> 6; learn(1) -> 2; shelfOf(1, 0) -> 11; shelfOf(1, 1) -> 1; shelfOf(1, 2) -> 11
@@ -195,7 +198,8 @@ public final class ShelvesTest {
     private static void cycles() {
         Calls.run("24: cycle tells how long the cycle of a slot is", """
             append "[r01,c01]r22c33" -> 15; learn(0) -> 6; cycle(0, 0) -> 3; cycle(0, 24) -> 3; cycle(0, 7) -> 3
-            cycle(0, 1) -> 1; cycle(0, 31) -> 1; cycle(0, 16) -> 4; cycle(0, 17) -> 7; cycle(0, 3) -> 7; cycle(0, 27) -> 7
+            cycle(0, 1) -> 1; cycle(0, 31) -> 1; cycle(0, 16) -> 4; cycle(0, 17) -> 7
+            cycle(0, 3) -> 7; cycle(0, 27) -> 7
             """);
     }
 

@@ -46,11 +46,14 @@ public final class SlotsTest {
             isDone(0) -> true; isDone(3) -> true; turn(2, 3) -> 24; isDone(2) -> true; account(1) -> 4
             shift(7, 1) -> 21; isDone(0) -> false; isDone(3) -> false; account(1) -> 0
             paint(31, 0) -> 3; isDone(0) -> true; account(1) -> 1; paint(0, 5) -> 0; isDone(0) -> false
-            account(1) -> 0; isDone(-1) -> throws IndexOutOfBoundsException; isDone(4) -> throws IndexOutOfBoundsException
+            account(1) -> 0
+            isDone(-1) -> throws IndexOutOfBoundsException; isDone(4) -> throws IndexOutOfBoundsException
             """);
         Calls.run("11: each column counts, the first and the last one too", """
             paint(8, 0) -> 1; isDone(1) -> false; paint(8, 1) -> 0; isDone(1) -> true
             paint(15, 5) -> 1; isDone(1) -> false; isDone(0) -> true; isDone(2) -> true; account(1) -> 3
+            paint(15, 1) -> 5; paint(9, 4) -> 1; isDone(1) -> false; paint(9, 1) -> 4; isDone(1) -> true
+            paint(14, 0) -> 1; isDone(1) -> false
             """);
     }
 

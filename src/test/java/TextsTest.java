@@ -75,8 +75,10 @@ public final class TextsTest {
         Calls.run("length: 200 is taken and more is not", """
             append "((r01c01)5)5((r01c01)5)5((r01c01)5)5((r01c01)5)5" -> 48; learn(0) -> 200
             append "((r01c01)5)5((r01c01)5)5((r01c01)5)5((r01c01)5)5" -> 48; read() -> 200
-            append "((r01c01)5)5((r01c01)5)5((r01c01)5)5((r01c01)5)5r01" -> 51; learn(0) -> throws UnsupportedOperationException
-            append "((r01c01)5)5((r01c01)5)5((r01c01)5)5((r01c01)5)5s0" -> 50; read() -> throws UnsupportedOperationException
+            append "((r01c01)5)5((r01c01)5)5((r01c01)5)5((r01c01)5)5r01" -> 51
+            learn(0) -> throws UnsupportedOperationException
+            append "((r01c01)5)5((r01c01)5)5((r01c01)5)5((r01c01)5)5s0" -> 50
+            read() -> throws UnsupportedOperationException
             refusal(false) -> 2; refusal(true) -> 200; errorPosition() -> throws NoSuchElementException
             account(7) -> 2; account(4) -> 1
             """);
@@ -116,6 +118,8 @@ public final class TextsTest {
         wrong("c", 1);
         wrong("c8", 1);
         wrong("c9", 1);
+        wrong("c/1", 1);
+        wrong("c:1", 1);
         wrong("c0", 2);
         wrong("c00", 2);
         wrong("c04", 2);
@@ -136,6 +140,7 @@ public final class TextsTest {
         wrong("(r01)0", 5);
         wrong("(r01)1", 5);
         wrong("(r01)'", 5);
+        wrong("(r01):", 5);
         wrong("(r01)22", 6);
         wrong("(r01)2''", 7);
         wrong("(r01)2)", 6);

@@ -57,7 +57,8 @@ public final class UndoTest {
             turn(0, 8) -> throws IllegalArgumentException; shift(0, 4) -> throws IllegalArgumentException
             scramble(0, 0) -> throws IllegalArgumentException; paint(0, 0) -> throws UnsupportedOperationException
             use(0, 1) -> throws UnsupportedOperationException; join(0, 0, 0) -> throws UnsupportedOperationException
-            invert(0, 0) -> throws UnsupportedOperationException; commute(0, 0, 0) -> throws UnsupportedOperationException
+            invert(0, 0) -> throws UnsupportedOperationException
+            commute(0, 0, 0) -> throws UnsupportedOperationException
             forget(0) -> throws UnsupportedOperationException; learn(0) -> throws IllegalArgumentException
             account(7) -> 1; undo() -> 0; account(0) -> 32; back() -> throws UnsupportedOperationException
             account(7) -> 0
