@@ -7,7 +7,9 @@ import java.util.List;
  * Runs of calls on new objects, written as the document writes its examples: "turn(0, 3) -> 24;
  * append "r01" -> 3; back() -> throws UnsupportedOperationException", a call a line or behind a
  * semicolon and a blank. Besides the calls of the face there is: written -> "r03c21" for the whole
- * line, and many N: CALL -> RESULT for the result of the last of N such calls.
+ * line, many N: CALL -> RESULT for the result of the last of N such calls, and reading "r01" -> 1 or
+ * learning 4 "r01" -> 1 for a text that is appended and read, or learnt on the shelf 4; the result
+ * of a text that is no sequence is wrong at N, its error position.
  */
 final class Calls {
     private static final int MOST_CALLS = 512;
@@ -77,14 +79,25 @@ final class Calls {
         }
         int quote = call.indexOf(" \"");
         if (quote >= 0) {
-            String last = "";
-            for (char sign : call.substring(quote + 2, call.length() - 1).toCharArray()) {
-                last = invoke(call.substring(0, quote), List.of(Integer.toString(sign)));
-            }
-            return last;
+            return answerToText(call.substring(0, quote), call.substring(quote + 2, call.length() - 1));
         }
         int open = call.indexOf('(');
         return invoke(call.substring(0, open), arguments(call.substring(open + 1, call.length() - 1)));
+    }
+
+    private String answerToText(String call, String text) {
+        String last = "";
+        for (char sign : text.toCharArray()) {
+            last = invoke("append", List.of(Integer.toString(sign)));
+        }
+        if (call.equals("append")) {
+            return last;
+        }
+        boolean isRead = call.equals("reading");
+        List<String> shelf = isRead ? List.of() : List.of(call.substring("learning ".length()));
+        String answer = invoke(isRead ? "read" : "learn", shelf);
+        boolean isWrong = answer.equals("throws IllegalArgumentException");
+        return isWrong ? "wrong at " + invoke("errorPosition", List.of()) : answer;
     }
 
     private String written() {
