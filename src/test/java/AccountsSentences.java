@@ -157,7 +157,8 @@ final class AccountsSentences {
                 use(0, 1) -> 16; undo() -> 2; account(0) -> 24; account(2) -> 1; join(0, 0, 0) -> 8; undo() -> 2
                 goesTo(0, 0) -> 1; invert(0, 4) -> 8; undo() -> 2; goesTo(4, 0) -> throws NoSuchElementException
                 commute(0, 0, 0) -> 0; undo() -> 2; goesTo(0, 0) -> 1; forget(0) -> 0; undo() -> 2
-                goesTo(0, 0) -> 1
+                goesTo(0, 0) -> 1; reading "c01" -> 1; shift(5, 2) -> 18; undo() -> 3; undo() -> 2; account(2) -> 1
+                logOf(0, 0) -> 0; logOf(0, 1) -> 1
                 """)
             .says("Returns the number of changes that can still be undone.", """
                 turn(0, 1) -> 24; undo() -> 0; many 9: turn(0, 1) -> 24; undo() -> 7; many 6: undo() -> 1
@@ -177,17 +178,17 @@ final class AccountsSentences {
         Sentences.under("Promise 39: save")
             .says("Takes a snapshot of what changes can change", """
                 turn(0, 1) -> 24; paint(0, 5) -> 0; learning 4 "r01" -> 1; reading "c01" -> 1; turn(1, 1) -> 14
-                save() -> 14; shift(3, 1) -> 12; paint(0, 4) -> 5; forget(4) -> 0; reading "c01" -> 1
+                save() -> 14; paint(0, 4) -> 5; forget(4) -> 0; reading "c01" -> 1; shift(3, 1) -> 12
                 restore() -> 14; line(0) -> 8; written -> "35000000"; account(2) -> 1; account(3) -> 2
-                account(4) -> 1; account(5) -> 1; goesTo(4, 0) -> 1; logOf(0, 1) -> 1
+                account(4) -> 1; account(5) -> 1; goesTo(4, 0) -> 1; logOf(0, 0) -> 0; logOf(0, 1) -> 1
                 """)
             .says("in place of an earlier one", """
                 save() -> 32; turn(0, 1) -> 24; save() -> 24; turn(1, 1) -> 16; restore() -> 24; where(0) -> 1
                 where(8) -> 8; account(2) -> 1
                 """)
             .says("Takes a snapshot", """
-                many 8: turn(0, 1) -> 32; save() -> 32; account(7) -> 8; undo() -> 7; account(7) -> 7
-                restore() -> 32; account(2) -> 8
+                many 7: turn(0, 1) -> 24; save() -> 24; account(7) -> 7; undo() -> 6; account(7) -> 6
+                restore() -> 24; account(2) -> 7
                 """)
             .says("Returns the stickers at home.", """
                 save() -> 32; turn(0, 1) -> 24; save() -> 24; scramble(9999, 60) -> 0; save() -> 0
@@ -197,9 +198,9 @@ final class AccountsSentences {
     private static void restore() {
         Sentences.under("Promise 40: restore")
             .says("Makes everything that changes can change as it is in the snapshot", """
-                save() -> 32; scramble(9999, 60) -> 0; paint(0, 5) -> 0; learning 0 "r01" -> 1; reading "r01" -> 1
-                restore() -> 32; at(0) -> 0; at(31) -> 31; colour(0) -> 0; account(2) -> 0; account(3) -> 0
-                account(4) -> 0; account(5) -> 0; account(7) -> 0
+                turn(2, 1) -> 24; save() -> 24; reading "r01" -> 1; scramble(9999, 60) -> 0; paint(0, 5) -> 0
+                learning 0 "r01" -> 1; restore() -> 24; at(0) -> 0; at(31) -> 31; colour(0) -> 0; account(2) -> 1
+                logOf(0, 1) -> 2; account(3) -> 1; account(4) -> 0; account(5) -> 0; account(7) -> 0
                 """)
             .says("which stays", """
                 turn(0, 1) -> 24; save() -> 24; turn(1, 1) -> 16; restore() -> 24; turn(2, 1) -> 16

@@ -103,7 +103,7 @@ final class Calls {
     private String written() {
         StringBuilder signs = new StringBuilder();
         String sign = invoke("character", List.of("0"));
-        while (!sign.startsWith("throws")) {
+        while (!sign.startsWith("throws") && signs.length() < MOST_CALLS) {
             signs.append(sign.charAt(1));
             sign = invoke("character", List.of(Integer.toString(signs.length())));
         }

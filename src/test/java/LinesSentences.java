@@ -138,6 +138,9 @@ final class LinesSentences {
             .says("Appends a character to the input.", """
                 append(114) -> 1; append(48) -> 2; append(49) -> 3; read() -> 1; append(0) -> 1; append(255) -> 2
                 append(65535) -> 3; read() -> throws IllegalArgumentException; errorPosition() -> 0
+                append(370) -> 1; append(48) -> 2; append(49) -> 3; read() -> throws IllegalArgumentException
+                errorPosition() -> 0; append(114) -> 1; append(176) -> 2; append(49) -> 3
+                read() -> throws IllegalArgumentException; errorPosition() -> 1
                 """)
             .says("Returns the characters in the input then.", """
                 append(32) -> 1; many 58: append(32) -> 59; append(32) -> 60; account(6) -> 60

@@ -1,6 +1,6 @@
+import java.util.ArrayList;
 import java.util.HashMap;
 import java.util.List;
-import java.util.ArrayList;
 import java.util.Map;
 
 /**
@@ -14,22 +14,30 @@ final class Sentences {
     private static final Map<String, List<String>> QUOTED = new HashMap<>();
 
     private final String head;
+    private final String name;
 
-    private Sentences(String head) {
+    private Sentences(String head, String name) {
         this.head = head;
+        this.name = name;
     }
 
+    /** A head that is a promise's own. */
     static Sentences under(String head) {
-        return new Sentences(head);
+        return new Sentences(head, head);
+    }
+
+    /** A head ahead of the promises, and the promises for which its sentences count. */
+    static Sentences under(String head, String promises) {
+        return new Sentences(head, head + " (" + promises + ")");
     }
 
     Sentences says(String sentence, String calls) {
-        String name = head + ": \"" + sentence + "\"";
+        String test = name + ": \"" + sentence + "\"";
         if (!DOCUMENT.says(head, sentence)) {
-            Calls.tellWrong("the document does not say under " + name);
+            Calls.tellWrong("the document does not say under " + test);
         }
         QUOTED.computeIfAbsent(head, each -> new ArrayList<>()).add(sentence);
-        Calls.run(name, calls);
+        Calls.run(test, calls);
         return this;
     }
 

@@ -252,7 +252,8 @@ final class ShelvesSentences {
                 goesTo(5, 0) -> throws IndexOutOfBoundsException; goesTo(0, -1) -> throws IndexOutOfBoundsException
                 goesTo(0, 32) -> throws IndexOutOfBoundsException; goesTo(4, 32) -> throws IndexOutOfBoundsException
                 goesTo(2147483647, 0) -> throws IndexOutOfBoundsException
-                goesTo(0, -2147483648) -> throws IndexOutOfBoundsException; goesTo(0, 0) -> 1; goesTo(0, 31) -> 31
+                goesTo(0, -2147483648) -> throws IndexOutOfBoundsException; learning 4 "c73" -> 1
+                goesTo(4, 31) -> 23; goesTo(0, 0) -> 1; goesTo(0, 31) -> 31
                 """)
             .says("Throws `NoSuchElementException` if there is nothing on the shelf", """
                 goesTo(0, 0) -> throws NoSuchElementException; goesTo(4, 31) -> throws NoSuchElementException
@@ -274,8 +275,9 @@ final class ShelvesSentences {
                 shelfOf(0, 1) -> 1
                 """)
             .says("2 for the length of its longest cycle", """
-                learning 0 "r04r04" -> 2; shelfOf(0, 2) -> 1; learning 0 "r01c31'r31" -> 3; shelfOf(0, 2) -> 18
-                learning 0 "r24c11" -> 2; shelfOf(0, 2) -> 5; learning 0 "r35r23r17c71r07" -> 5; shelfOf(0, 2) -> 32
+                learning 0 "r04r04" -> 2; shelfOf(0, 2) -> 1; learning 0 "r31" -> 1; shelfOf(0, 2) -> 8
+                learning 0 "r01c31'r31" -> 3; shelfOf(0, 2) -> 18; learning 0 "r24c11" -> 2; shelfOf(0, 2) -> 5
+                learning 0 "r35r23r17c71r07" -> 5; shelfOf(0, 2) -> 32
                 """)
             .says("3 for its order", """
                 learning 0 "r04r04" -> 2; shelfOf(0, 3) -> 1; learning 0 "[r01,c01]r21" -> 5; shelfOf(0, 3) -> 24
@@ -296,7 +298,8 @@ final class ShelvesSentences {
                 shelfOf(5, 0) -> throws IndexOutOfBoundsException
                 shelfOf(-2147483648, 0) -> throws IndexOutOfBoundsException
                 shelfOf(2147483647, 0) -> throws IndexOutOfBoundsException
-                shelfOf(5, 4) -> throws IndexOutOfBoundsException; shelfOf(0, 0) -> 8
+                shelfOf(5, 4) -> throws IndexOutOfBoundsException; learning 4 "c73" -> 1; shelfOf(4, 3) -> 4
+                shelfOf(0, 0) -> 8
                 """)
             .says("Throws `IllegalArgumentException` if what is not from 0 to 3", """
                 learning 0 "r01" -> 1; shelfOf(0, -1) -> throws IllegalArgumentException
@@ -394,7 +397,8 @@ final class ShelvesSentences {
                 cycle(5, 0) -> throws IndexOutOfBoundsException; cycle(0, -1) -> throws IndexOutOfBoundsException
                 cycle(0, 32) -> throws IndexOutOfBoundsException; cycle(4, 32) -> throws IndexOutOfBoundsException
                 cycle(2147483647, 0) -> throws IndexOutOfBoundsException
-                cycle(0, -2147483648) -> throws IndexOutOfBoundsException; cycle(0, 0) -> 8; cycle(0, 31) -> 1
+                cycle(0, -2147483648) -> throws IndexOutOfBoundsException; learning 4 "c73" -> 1; cycle(4, 31) -> 4
+                cycle(0, 0) -> 8; cycle(0, 31) -> 1
                 """)
             .says("Throws `NoSuchElementException` if there is nothing on the shelf", """
                 cycle(0, 0) -> throws NoSuchElementException; cycle(4, 31) -> throws NoSuchElementException

@@ -95,7 +95,7 @@ final class SlotsSentences {
             .says("Tells whether a ring is done: whether all its slots have one colour.", """
                 isDone(0) -> true; isDone(3) -> true; turn(3, 1) -> 24; isDone(3) -> true; paint(24, 5) -> 3
                 isDone(3) -> false; paint(24, 3) -> 5; isDone(3) -> true; paint(31, 5) -> 3; isDone(3) -> false
-                isDone(2) -> true
+                paint(31, 3) -> 5; paint(30, 5) -> 3; isDone(3) -> false; isDone(2) -> true
                 """)
             .says("whether all its slots have one colour", """
                 shift(7, 1) -> 28; isDone(0) -> false; isDone(3) -> false; paint(31, 0) -> 3; isDone(0) -> true
@@ -136,7 +136,8 @@ final class SlotsSentences {
                 fewest(0, 9) -> 2; fewest(0, 31) -> 2; fewest(31, 0) -> 2; fewest(7, 8) -> 2; fewest(8, 7) -> 2
                 """)
             .says("whatever else they move", """
-                scramble(0, 60) -> 2; fewest(0, 31) -> 2; fewest(0, 4) -> 1; fewest(5, 5) -> 0; account(7) -> 1
+                scramble(0, 60) -> 2; fewest(0, 31) -> 2; fewest(0, 4) -> 1; fewest(5, 5) -> 0; fewest(1, 8) -> 2
+                fewest(0, 7) -> 1; fewest(0, 24) -> 1; fewest(2, 3) -> 1; account(7) -> 1
                 """)
             .says("`other`: the other slot, or the same", """
                 fewest(0, 0) -> 0; fewest(31, 31) -> 0; fewest(12, 12) -> 0

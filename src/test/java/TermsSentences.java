@@ -18,18 +18,19 @@ final class TermsSentences {
     }
 
     private static void calls() {
-        Sentences.under("What it is").says("An object is used for at most 512 calls after it has been made", """
-            learning 4 "r01" -> 1; many 500: use(4, 1) -> 24; where(0) -> 4; at(0) -> 4; cycleLine(4) -> 17
-            account(7) -> 8; undo() -> 7; save() -> 24; isWell() -> true; where(0) -> 3
-            """);
+        Sentences.under("What it is", "promises 1 to 40")
+            .says("An object is used for at most 512 calls after it has been made", """
+                learning 4 "r01" -> 1; many 500: use(4, 1) -> 24; where(0) -> 4; at(0) -> 4; cycleLine(4) -> 17
+                account(7) -> 8; undo() -> 7; save() -> 24; isWell() -> true; where(0) -> 3
+                """);
     }
 
     private static void slotsAndStickers() {
-        Sentences.under("Terms")
+        Sentences.under("Terms", "promise 5")
             .says("Divisions are rounded down.", """
                 scramble(9999, 2) -> 21; logLine() -> 6; written -> "c72r32"
                 """);
-        Sentences.under("Terms: Slots and stickers")
+        Sentences.under("Terms: Slots and stickers", "promises 1 to 3 and 7 to 10")
             .says("The barrel has 4 rings, numbered from 0, one above the other, and 8 columns, numbered from 0", """
                 turn(-1, 1) -> throws IndexOutOfBoundsException; turn(0, 1) -> 24; turn(3, 1) -> 16
                 turn(4, 1) -> throws IndexOutOfBoundsException; shift(-1, 1) -> throws IndexOutOfBoundsException
@@ -59,7 +60,7 @@ final class TermsSentences {
     }
 
     private static void moves() {
-        Sentences.under("Terms: Moves")
+        Sentences.under("Terms: Moves", "promises 2 to 4 and 31")
             .says("To turn a ring by 1 to 7 moves each of its stickers by so many columns to the right", """
                 turn(2, 1) -> 24; at(17) -> 16; at(23) -> 22; where(16) -> 17; at(15) -> 15; at(24) -> 24
                 turn(1, 7) -> 16; at(15) -> 8; at(14) -> 15
@@ -84,7 +85,7 @@ final class TermsSentences {
     }
 
     private static void sequences() {
-        Sentences.under("Terms: Sequences")
+        Sentences.under("Terms: Sequences", "promises 14 and 31")
             .says("A sequence is a row of items.", """
                 reading "r01" -> 1; reading "c01r01" -> 2; where(0) -> 2; where(7) -> 8
                 reading "r01r02r03r04r05r06r07r11r12r13r14r15r16r17c01c02c03c11c12c13" -> 20
@@ -137,7 +138,7 @@ final class TermsSentences {
     }
 
     private static void length() {
-        Sentences.under("Terms: Length")
+        Sentences.under("Terms: Length", "promises 14 and 31")
             .says("A move, or what is on a shelf, counts 1", """
                 reading "r07" -> 1; reading "c03'" -> 1; learning 0 "((r01)9)9" -> 81; reading "s0" -> 1
                 reading "((s0)9)9" -> 81; learning 1 "r04r04" -> 2; reading "s1'" -> 1
@@ -166,7 +167,7 @@ final class TermsSentences {
     }
 
     private static void shelves() {
-        Sentences.under("Terms: Shelves")
+        Sentences.under("Terms: Shelves", "promises 14 to 20")
             .says("There are 5 shelves, numbered from 0, each with a permutation of slots or nothing", """
                 learning 0 "r01" -> 1; learning 4 "r11" -> 1; learning 5 "r21" -> throws IndexOutOfBoundsException
                 learning -1 "r31" -> throws IndexOutOfBoundsException; goesTo(0, 0) -> 1; goesTo(4, 8) -> 9
@@ -188,7 +189,7 @@ final class TermsSentences {
     }
 
     private static void cycles() {
-        Sentences.under("Terms: Cycles")
+        Sentences.under("Terms: Cycles", "promises 21 to 24")
             .says("goes by doing the permutation again and again, until it is back", """
                 learning 0 "r35r23r17c71r07" -> 5; cycle(0, 0) -> 32; cycle(0, 31) -> 32; learning 0 "r04" -> 1
                 cycle(0, 0) -> 2; cycle(0, 7) -> 2; cycle(0, 8) -> 1
@@ -200,13 +201,14 @@ final class TermsSentences {
                 """)
             .says("A permutation is even if an even number of exchanges of two slots makes it.", """
                 learning 0 "r04r04" -> 2; isEven(0, true) -> true; isEven(0, false) -> true; learning 0 "c02" -> 1
+                isEven(0, true) -> true; isEven(0, false) -> true; learning 0 "[r01,c01]" -> 4
                 isEven(0, true) -> true; isEven(0, false) -> true; learning 0 "c01" -> 1; isEven(0, true) -> false
                 isEven(0, false) -> false
                 """);
     }
 
     private static void log() {
-        Sentences.under("Terms: The log")
+        Sentences.under("Terms: The log", "promises 2 to 6, 15 and 31")
             .says("The log has the latest 40 moves that were done by themselves, the latest last.", """
                 turn(3, 7) -> 24; many 38: turn(0, 1) -> 16; account(2) -> 39; shift(7, 3) -> 14; account(2) -> 40
                 logOf(0, 1) -> 3; logOf(39, 1) -> 7; shift(6, 1) -> 12; account(2) -> 40; logOf(0, 1) -> 0
@@ -230,7 +232,7 @@ final class TermsSentences {
     }
 
     private static void scrambles() {
-        Sentences.under("Terms: Scrambles")
+        Sentences.under("Terms: Scrambles", "promise 5")
             .says("A scramble has a seed from 0 to 9999 and a number of moves from 1 to 60.", """
                 scramble(0, 1) -> 28; scramble(9999, 60) -> 0; account(3) -> 61
                 scramble(-1, 1) -> throws IllegalArgumentException
@@ -259,7 +261,7 @@ final class TermsSentences {
     }
 
     private static void reasons() {
-        Sentences.under("Terms: Reasons")
+        Sentences.under("Terms: Reasons", "promises 4, 9, 14 to 19, 31 and 33")
             .says("Something is refused for the first that applies of the reasons that its method names, "
                 + "in the order in which it names them, with a detail", """
                 join(4, 3, 0) -> throws UnsupportedOperationException; refusal(true) -> 4
@@ -290,7 +292,7 @@ final class TermsSentences {
     }
 
     private static void texts() {
-        Sentences.under("Terms: Texts")
+        Sentences.under("Terms: Texts", "promises 14 and 30 to 32")
             .says("The input has at most 60 characters", """
                 many 59: append(114) -> 59; append(114) -> 60; append(114) -> throws IllegalStateException
                 account(6) -> 60; read() -> throws IllegalArgumentException; append(114) -> 1
@@ -328,7 +330,7 @@ final class TermsSentences {
     }
 
     private static void undo() {
-        Sentences.under("Terms: Undo")
+        Sentences.under("Terms: Undo", "promises 38 and 40")
             .says("The changes are the successful calls of turn, shift, back, scramble, paint, read, learn, use, join, "
                 + "invert, commute and forget.", """
                 turn(0, 1) -> 24; account(7) -> 1; shift(0, 1) -> 21; account(7) -> 2; back() -> 1; account(7) -> 3
@@ -361,7 +363,7 @@ final class TermsSentences {
     }
 
     private static void exceptions() {
-        Sentences.under("Terms: Exceptions")
+        Sentences.under("Terms: Exceptions", "promises 1 to 40")
             .says("A method that throws an exception leaves the state unchanged unless its documentation says otherwise.", """
                 turn(0, 1) -> 24; learning 0 "r01" -> 1; save() -> 24; line(0) -> 8; append "r0" -> 2
                 turn(4, 1) -> throws IndexOutOfBoundsException; turn(0, 0) -> throws IllegalArgumentException
@@ -411,7 +413,7 @@ final class TermsSentences {
     }
 
     private static void inDoubt() {
-        Sentences.under("Terms: In doubt, too")
+        Sentences.under("Terms: In doubt, too", "promises 14, 21, 22, 24, 28, 31 and 32")
             .says("A sequence has one item at least, so that \"\", \"()2\" and \"[,r11]\" are wrong at 0, 1 and 1.", """
                 reading "" -> wrong at 0; reading "()2" -> wrong at 1; reading "[,r11]" -> wrong at 1
                 reading "[r11,]" -> wrong at 5; reading "[]" -> wrong at 1; learning 0 "" -> wrong at 0
