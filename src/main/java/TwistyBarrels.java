@@ -841,7 +841,8 @@ public final class TwistyBarrels {
         }
 
         int part(int place, int what) {
-            return isIndex(place, moves) && isIndex(what, PARTS) ? parts[place * PARTS + what] : NONE;
+            boolean isThere = isIndex(place, MOST_LOGGED) && place < moves && isIndex(what, PARTS);
+            return isThere ? parts[place * PARTS + what] : NONE;
         }
 
         void add(int kind, int which, int by) {
@@ -849,10 +850,12 @@ public final class TwistyBarrels {
                 System.arraycopy(parts, PARTS, parts, 0, (MOST_LOGGED - 1) * PARTS);
                 moves = MOST_LOGGED - 1;
             }
-            parts[moves * PARTS] = kind;
-            parts[moves * PARTS + 1] = which;
-            parts[moves * PARTS + 2] = by;
-            moves++;
+            if (isIndex(moves, MOST_LOGGED)) {
+                parts[moves * PARTS] = kind;
+                parts[moves * PARTS + 1] = which;
+                parts[moves * PARTS + 2] = by;
+                moves++;
+            }
         }
 
         void dropLast() {
@@ -953,14 +956,17 @@ public final class TwistyBarrels {
                 states[MOST_UNDONE - 1] = oldest;
                 held = MOST_UNDONE - 1;
             }
-            states[held].copyFrom(state);
-            held++;
+            if (isIndex(held, MOST_UNDONE)) {
+                states[held].copyFrom(state);
+                held++;
+            }
         }
 
         void giveBack(State state) {
-            if (held > 0) {
-                held--;
-                state.copyFrom(states[held]);
+            int latest = held - 1;
+            if (isIndex(latest, MOST_UNDONE)) {
+                state.copyFrom(states[latest]);
+                held = latest;
             }
         }
     }
@@ -982,11 +988,11 @@ public final class TwistyBarrels {
         }
 
         int signAt(int index) {
-            return index >= 0 && index < length ? signs[index] : NO_SIGN;
+            return index >= 0 && index < length && index < MOST ? signs[index] : NO_SIGN;
         }
 
         void addSign(char sign) {
-            if (length < MOST) {
+            if (isIndex(length, MOST)) {
                 signs[length] = sign;
                 length++;
             }
@@ -1061,21 +1067,21 @@ public final class TwistyBarrels {
                 return WRONG;
             }
             Permutation whole = sequences[depth];
+            Permutation part = items[depth];
             whole.toNothing();
             int counts = 0;
             for (int item = 0; item < MOST_SIGNS && (item == 0 || isItemNext()); item++) {
-                int more = item(depth, shelves);
+                int more = item(depth, shelves, part);
                 if (more == WRONG) {
                     return WRONG;
                 }
                 counts += more;
-                whole.then(items[depth]);
+                whole.then(part);
             }
             return counts;
         }
 
-        private int item(int depth, State shelves) {
-            Permutation result = items[depth];
+        private int item(int depth, State shelves, Permutation result) {
             int counts = WRONG;
             switch (text.signAt(place)) {
                 case 'r':
@@ -1136,7 +1142,7 @@ public final class TwistyBarrels {
         }
 
         private int repeatedItem(int depth, State shelves, Permutation result) {
-            if (depth >= DEEPEST) {
+            if (!isIndex(depth, DEEPEST)) {
                 return WRONG;
             }
             place++;
@@ -1154,7 +1160,7 @@ public final class TwistyBarrels {
         }
 
         private int commutedItem(int depth, State shelves, Permutation result) {
-            if (depth >= DEEPEST) {
+            if (!isIndex(depth, DEEPEST)) {
                 return WRONG;
             }
             place++;

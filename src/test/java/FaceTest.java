@@ -75,6 +75,9 @@ public final class FaceTest {
             check(Modifier.isStatic(inner.getModifiers()), inner + " is not static");
             check(!Modifier.isPublic(inner.getModifiers()), inner + " is public");
             check(!Modifier.isProtected(inner.getModifiers()), inner + " is protected");
+            for (Method method : inner.getDeclaredMethods()) {
+                check(!publicNames.contains(method.getName()), method + " bears a public name");
+            }
         }
         System.out.println(due.size() + " members of the face, " + wrong + " faults");
         if (wrong > 0) {
